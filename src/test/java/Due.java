@@ -37,9 +37,9 @@ final class Due {
         thrown(call, x, c, IllegalStateException.class);
     }
 
-    /** The call throws just that exception, and nothing that can be asked is another then. */
+    /** The call throws just that exception, and what is asked then is as it was; RefusedCallTest looks further. */
     private void thrown(String call, SkyLanes x, Call c, Class<? extends RuntimeException> want) {
-        String before = Snapshot.of(x);
+        String before = Snapshot.brief(x);
         Class<?> got = null;
         try {
             c.run();
@@ -50,7 +50,7 @@ final class Due {
         if (got != want) {
             tell(call + " threw " + got + ", due is " + want);
         }
-        same("what can be asked behind " + call, Snapshot.of(x), before);
+        same("what can be asked behind " + call, Snapshot.brief(x), before);
     }
 
     void end() {

@@ -2,8 +2,9 @@ import java.util.TreeMap;
 
 /** Long runs of calls, drawn by a fixed sequence of numbers, whose answers are compared with those of PlainLanes. */
 public final class ModelTest {
-    private static final int RUNS = 3000;
-    private static final int CALLS = 300;
+    private static final int RUNS = 5000;
+    /** An object is used for at most 512 calls; the dearest of plainCall makes some twenty of them. */
+    private static final int CALLS = 480;
     private static final int[] EXTREMES = {Integer.MIN_VALUE, -1000, -2, -1, 0, 1, 2, 3, 4, 5, 6, 7, 9, 10, 11, 39, 40, 41,
         99, 100, 101, 200, 201, 20000, 100000, 100001, Integer.MAX_VALUE};
 
@@ -14,6 +15,7 @@ public final class ModelTest {
     private PlainLanes y;
     private StringBuilder run;
     private int[] cells;
+    private int calls;
 
     public static void main(String[] args) {
         ModelTest t = new ModelTest();
@@ -35,6 +37,7 @@ public final class ModelTest {
 
     /** One call of both; its answers must be the same; returns the answer, or a large number for an exception. */
     private long both(String call, Two two) {
+        calls++;
         String got = answer(two, true);
         String want = answer(two, false);
         run.append(call).append(" = ").append(want).append('\n');
@@ -57,6 +60,7 @@ public final class ModelTest {
     private void oneRun(int number) {
         x = new SkyLanes();
         y = new PlainLanes();
+        calls = 0;
         run = new StringBuilder("run " + number + "\n");
         cells = new int[2 + draw(5)];
         int corner = draw(10) < 7 ? 11 * draw(6) : -1;
@@ -74,21 +78,46 @@ public final class ModelTest {
         for (int i = 2 + draw(8); i > 0; i--) {
             bring(draw(4), cells[draw(cells.length)], draw(3) == 0 ? 20 + draw(30) : 20 + draw(181));
         }
-        boolean fillsUp = number % 20 == 0;
-        for (int i = 0; i < CALLS; i++) {
-            if (fillsUp && draw(2) == 0) {
-                fileTrip(draw(8));
-                tick(1 + draw(10));
-            } else if (draw(25) == 0) {
+        if (number % 20 == 0) {
+            fillUp();
+        }
+        while (calls < CALLS) {
+            if (draw(25) == 0) {
                 oddCall();
             } else {
                 plainCall();
             }
         }
-        seen.merge("machines down", x.count(3), Integer::sum);
-        seen.merge("machines down together", x.count(4), Integer::sum);
-        due.same("what can be asked behind\n" + run, "" + x.count(2) + " " + x.count(3) + " " + x.count(4) + " " + x.alerts(),
-            "" + y.count(2) + " " + y.count(3) + " " + y.count(4) + " " + y.alerts());
+        for (int what = 2; what <= 4; what++) {
+            int counted = what;
+            both("count(" + what + ")", p -> p ? x.count(counted) : y.count(counted));
+        }
+        both("alerts()", p -> p ? x.alerts() : y.alerts());
+        due.is("calls of the object", calls <= 512, true);
+        seen.merge("machines down", y.count(3), Integer::sum);
+        seen.merge("machines down together", y.count(4), Integer::sum);
+    }
+
+    /** Nearly as many machines, rooms and paths as there may be. */
+    private void fillUp() {
+        for (int i = 0; i < 8; i++) {
+            bring(draw(4), cells[0], 200);
+        }
+        for (int i = 0; i < 8; i++) {
+            closeNear();
+        }
+        for (int i = 0; i < 37; i++) {
+            int machine = i % 2;
+            int later = 1 + draw(200);
+            move(5, 1);
+            move(6, 1);
+            long got = both("file(" + machine + ", " + later + ", 0)", p -> p ? x.file(machine, later, 0) : y.file(machine, later, 0));
+            if (got >= 0 && got < 40) {
+                withdraw((int) got);
+            } else {
+                both("clear()", p -> p ? x.clear() : y.clear());
+            }
+        }
     }
 
     private void bring(int firm, int cell, int full) {
@@ -118,7 +147,7 @@ public final class ModelTest {
                 return 0;
             });
         } else if (kind == 21) {
-            withdraw(draw(1 + x.count(0)));
+            withdraw(draw(1 + y.count(0)));
         } else if (kind == 22) {
             int layer = 1 + draw(3);
             int wind = draw(4) == 0 ? draw(4) : 0;
@@ -138,7 +167,7 @@ public final class ModelTest {
         for (int i = 0; i < 8; i++) {
             int m = (first + i) % 8;
             try {
-                if (x.ofMachine(m, 0) == SkyLanes.FLIES) {
+                if (y.ofMachine(m, 0) == SkyLanes.FLIES) {
                     return m;
                 }
             } catch (IndexOutOfBoundsException e) {
@@ -171,7 +200,7 @@ public final class ModelTest {
         int cell = Math.min(99, cells[draw(cells.length)] + draw(12));
         int other = Math.max(0, cell - draw(25));
         int layer = 1 + draw(3);
-        int from = x.time() + draw(20);
+        int from = y.time() + draw(20);
         int to = from + draw(6);
         both("close(" + cell + ", " + other + ", " + layer + ", " + from + ", " + to + ")",
             p -> p ? x.close(cell, other, layer, from, to) : y.close(cell, other, layer, from, to));
@@ -195,7 +224,7 @@ public final class ModelTest {
         if (draw(30) != 0) move(6, up);
         if (draw(10) == 0) move(draw(7), 1);
         both("takes(" + machine + ")", p -> p ? x.takes(machine) : y.takes(machine));
-        int time = x.time() + 1 + (draw(6) == 0 ? draw(200) : draw(8));
+        int time = y.time() + 1 + (draw(6) == 0 ? draw(200) : draw(8));
         int urgency = draw(4);
         long got = both("file(" + machine + ", " + time + ", " + urgency + ")",
             p -> p ? x.file(machine, time, urgency) : y.file(machine, time, urgency));
@@ -207,30 +236,38 @@ public final class ModelTest {
 
     private int whereIs(int machine) {
         try {
-            return x.ofMachine(machine, 1);
+            return y.ofMachine(machine, 1);
         } catch (IndexOutOfBoundsException e) {
             return 0;
         }
     }
 
     private void ask(int machine) {
-        int path = draw(1 + x.count(0));
-        int other = draw(1 + x.count(0));
-        int time = x.time() - 5 + draw(20);
+        int path = draw(1 + y.count(0));
+        int other = draw(1 + y.count(0));
+        int time = y.time() - 5 + draw(20);
         int cell = draw(100);
+        int what = draw(6);
         if (both("alerts()", p -> p ? x.alerts() : y.alerts()) != 0) {
             seen.merge("alerts that are some", 1, Integer::sum);
         }
-        both("time()", p -> p ? x.time() : y.time());
-        both("home(" + cell + ")", p -> p ? x.home(cell) : y.home(cell));
-        both("placeAt(" + path + ", " + time + ")", p -> p ? x.placeAt(path, time) : y.placeAt(path, time));
-        both("meets(" + path + ", " + other + ")", p -> (p ? x.meets(path, other) : y.meets(path, other)) ? 1 : 0);
-        both("meetsAnew(" + path + ", " + other + ")", p -> (p ? x.meetsAnew(path, other) : y.meetsAnew(path, other)) ? 1 : 0);
-        for (int w = 0; w <= 5; w++) {
-            int what = w;
-            both("ofMachine(" + machine + ", " + what + ")", p -> p ? x.ofMachine(machine, what) : y.ofMachine(machine, what));
-            both("ofPath(" + path + ", " + what + ")", p -> p ? x.ofPath(path, what) : y.ofPath(path, what));
-            both("count(" + what + ")", p -> p ? x.count(what) : y.count(what));
+        switch (draw(4)) {
+            case 0:
+                both("time()", p -> p ? x.time() : y.time());
+                both("home(" + cell + ")", p -> p ? x.home(cell) : y.home(cell));
+                break;
+            case 1:
+                both("meets(" + path + ", " + other + ")", p -> (p ? x.meets(path, other) : y.meets(path, other)) ? 1 : 0);
+                both("meetsAnew(" + path + ", " + other + ")", p -> (p ? x.meetsAnew(path, other) : y.meetsAnew(path, other)) ? 1 : 0);
+                break;
+            case 2:
+                both("placeAt(" + path + ", " + time + ")", p -> p ? x.placeAt(path, time) : y.placeAt(path, time));
+                both("count(" + what + ")", p -> p ? x.count(what) : y.count(what));
+                break;
+            default:
+                both("ofMachine(" + machine + ", " + what + ")", p -> p ? x.ofMachine(machine, what) : y.ofMachine(machine, what));
+                both("ofPath(" + path + ", " + what + ")", p -> p ? x.ofPath(path, what) : y.ofPath(path, what));
+                break;
         }
     }
 

@@ -1,25 +1,30 @@
-/** All that can be asked of a SkyLanes, as one text. */
+/** What can be asked of a SkyLanes, as one text. */
 final class Snapshot {
+    private static final int[] CELLS = {0, 9, 45, 90, 99};
+
     private Snapshot() {
     }
 
-    static String of(SkyLanes x) {
+    /** In few calls: an object is used for at most 512 of them. */
+    static String brief(SkyLanes x) {
         StringBuilder text = new StringBuilder();
         text.append("time ").append(x.time()).append(" why ").append(x.why()).append(" alerts ").append(x.alerts());
         for (int what = 0; what <= 4; what++) {
             text.append(" count").append(what).append(' ').append(x.count(what));
         }
-        homes(x, text);
-        machines(x, text);
-        paths(x, text);
         return text.toString();
     }
 
-    private static void homes(SkyLanes x, StringBuilder text) {
+    /** With the machines, the paths and some ways home. */
+    static String of(SkyLanes x) {
+        StringBuilder text = new StringBuilder(brief(x));
         text.append(" homes");
-        for (int cell = 0; cell < 100; cell++) {
+        for (int cell : CELLS) {
             text.append(' ').append(x.home(cell));
         }
+        machines(x, text);
+        paths(x, text);
+        return text.toString();
     }
 
     private static void machines(SkyLanes x, StringBuilder text) {
@@ -36,19 +41,18 @@ final class Snapshot {
     }
 
     private static void paths(SkyLanes x, StringBuilder text) {
-        for (int p = 0; p < x.count(0); p++) {
+        int paths = x.count(0);
+        for (int p = 0; p < paths; p++) {
             text.append("\n  path ").append(p).append(':');
             for (int what = 0; what <= 4; what++) {
                 text.append(' ').append(x.ofPath(p, what));
             }
-            text.append(" at");
-            for (int time = x.ofPath(p, 2) - 1; time <= x.ofPath(p, 3) + 1; time++) {
-                text.append(' ').append(x.placeAt(p, time));
+            int now = x.time();
+            for (int time = now; time <= now + 3; time++) {
+                text.append(" at ").append(time).append(": ").append(x.placeAt(p, time));
             }
-            text.append(" meets");
-            for (int other = 0; other < x.count(0); other++) {
-                text.append(x.meets(p, other) ? " 1" : " 0").append(x.meetsAnew(p, other) ? "1" : "0");
-            }
+            int other = (p + 1) % paths;
+            text.append(" meets ").append(x.meets(p, other)).append(' ').append(x.meetsAnew(p, other));
         }
     }
 }

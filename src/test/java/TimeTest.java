@@ -4,6 +4,7 @@ public final class TimeTest {
 
     public static void main(String[] args) {
         tickRanges();
+        tickToTheLastTime();
         tickCharges();
         tickFlies();
         downInTheAir();
@@ -44,7 +45,11 @@ public final class TimeTest {
         due.is("tick(1)", x.tick(1), 1);
         due.is("tick(50)", x.tick(50), 51);
         due.is("tick(49)", x.tick(49), 100);
-        for (int i = 3; i < 400; i++) {
+    }
+
+    private static void tickToTheLastTime() {
+        SkyLanes x = Draft.city(0);
+        for (int i = 1; i < 400; i++) {
             due.is("tick " + i, x.tick(50), 50 * i);
         }
         due.is("ahead of the last one", x.tick(49), 19999);
