@@ -177,6 +177,10 @@ public final class CityEdgesTest {
         due.is("it ended", x.ofPath(0, 0), SkyLanes.ENDED);
         due.badState("as it ended", x, () -> x.tower(34, 0));
         due.badState("of the height that it has", x, () -> x.tower(34, 3));
+        SkyLanes y = Draft.city(33);
+        Draft.file(y, "U1 D1", 0, 1, 0);
+        y.withdraw(0);
+        due.badState("as it is withdrawn", y, () -> y.tower(34, 1));
     }
 
     /** "At most 8 cells without towers are spots", "Returns how many there are", "or there are 8" */

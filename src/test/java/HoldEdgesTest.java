@@ -146,6 +146,7 @@ public final class HoldEdgesTest {
             }
             due.is("80 moves by " + steps, x.hold(0, steps), 81);
             due.badState("81 moves", x, () -> x.hold(0, 1));
+            due.is("its end", x.ofPath(0, 3), 81);
             due.is("its place at 80", x.placeAt(0, 80), 100);
             due.is("its place at 81", x.placeAt(0, 81), 0);
             due.is("behind it", x.placeAt(0, 82), SkyLanes.NONE);

@@ -16,6 +16,7 @@ public final class ModelTest {
     private StringBuilder run;
     private int[] cells;
     private int calls;
+    private int machines;
 
     public static void main(String[] args) {
         ModelTest t = new ModelTest();
@@ -61,6 +62,7 @@ public final class ModelTest {
         x = new SkyLanes();
         y = new PlainLanes();
         calls = 0;
+        machines = 0;
         run = new StringBuilder("run " + number + "\n");
         cells = new int[2 + draw(5)];
         int corner = draw(10) < 7 ? 11 * draw(6) : -1;
@@ -121,11 +123,15 @@ public final class ModelTest {
     }
 
     private void bring(int firm, int cell, int full) {
-        both("machine(" + firm + ", " + cell + ", " + full + ")", p -> p ? x.machine(firm, cell, full) : y.machine(firm, cell, full));
+        long got = both("machine(" + firm + ", " + cell + ", " + full + ")",
+            p -> p ? x.machine(firm, cell, full) : y.machine(firm, cell, full));
+        if (got != Long.MAX_VALUE) {
+            machines++;
+        }
     }
 
     private void plainCall() {
-        int machine = draw(8);
+        int machine = draw(machines + 1);
         int kind = draw(40);
         if (kind < 10) {
             fileTrip(machine);
@@ -163,15 +169,11 @@ public final class ModelTest {
 
     /** A machine that flies, the first one where none does. */
     private int flying() {
-        int first = draw(8);
-        for (int i = 0; i < 8; i++) {
-            int m = (first + i) % 8;
-            try {
-                if (y.ofMachine(m, 0) == SkyLanes.FLIES) {
-                    return m;
-                }
-            } catch (IndexOutOfBoundsException e) {
-                continue;
+        int first = draw(10);
+        for (int i = 0; i < machines; i++) {
+            int m = (first + i) % machines;
+            if (y.ofMachine(m, 0) == SkyLanes.FLIES) {
+                return m;
             }
         }
         return 0;
@@ -235,11 +237,7 @@ public final class ModelTest {
     }
 
     private int whereIs(int machine) {
-        try {
-            return y.ofMachine(machine, 1);
-        } catch (IndexOutOfBoundsException e) {
-            return 0;
-        }
+        return machine < machines ? y.ofMachine(machine, 1) : 0;
     }
 
     private void ask(int machine) {

@@ -202,25 +202,30 @@ public final class PathEdgesTest {
         due.is("an accepted path does not", x.clear(), 0);
     }
 
-    /** "NONE if it is not PARKED": one that waits for its path is. */
+    private static void takesNow(String name, SkyLanes x, String moves, int want) {
+        Draft.put(x, moves);
+        due.is(name, x.takes(0), want);
+    }
+
+    /** "NONE if it is not PARKED": one that waits for its path is; the others are above or at the spot 0. */
     private static void takesOfMachines() {
         SkyLanes x = Draft.city(0, 9);
-        x.machine(1, 9, 20);
-        x.gust(1, 5);
-        due.is("its path", Draft.file(x, "U1 E9 D1", 0, 3, 0), 0);
-        due.is("another", Draft.file(x, "U1 .8 D1", 1, 1, 0), 1);
-        Draft.put(x, "U2 D2");
-        due.is("as its path waits", x.takes(0), 6);
+        due.is("its path", Draft.file(x, ".1 U1 .3 D1", 0, 3, 0), 0);
+        takesNow("as its path waits", x, "U1 D1", 3);
         x.tick(4);
-        due.is("as it flies", x.takes(0), SkyLanes.NONE);
-        x.lose(0);
-        due.is("as it is lost", x.takes(0), SkyLanes.NONE);
-        due.is("as the other flies", x.takes(1), SkyLanes.NONE);
+        takesNow("as it flies on the ground", x, "U1 D1", SkyLanes.NONE);
         x.tick(1);
-        due.is("as it is home", x.takes(0), 6);
-        due.is("the other is down", x.ofMachine(1, 0), SkyLanes.DOWN);
-        due.is("as it is down", x.takes(1), SkyLanes.NONE);
-        due.outside("of no machine", x, () -> x.takes(2));
+        takesNow("as it flies", x, "D1", SkyLanes.NONE);
+        x.lose(0);
+        takesNow("as it is lost", x, "D1", SkyLanes.NONE);
+        x.tick(1);
+        takesNow("as it is home", x, "U1 D1", 3);
+        x.gust(1, 5);
+        due.is("its path", Draft.file(x, "U1 .10 .10 D1", 0, 7, 0), 1);
+        x.tick(20);
+        due.is("it is down", x.ofMachine(0, 0), SkyLanes.DOWN);
+        takesNow("as it is down", x, "D1", SkyLanes.NONE);
+        due.outside("of no machine", x, () -> x.takes(1));
         due.outside("of the machine -1", x, () -> x.takes(-1));
     }
 
